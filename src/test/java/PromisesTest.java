@@ -28,7 +28,10 @@ public final class PromisesTest {
         eventRefusesUnknown();
         eventRefusesOutside();
         eventHasRoomForTwoHundred();
+        fullRowAnswers();
         orderOfEvents();
+        backAndForth();
+        kindsLeaveOthersAlone();
         state();
         sent();
         way();
@@ -41,7 +44,9 @@ public final class PromisesTest {
         bestLeavesOut();
         bestNotTried();
         cover();
+        coverOfFirstNode();
         hears();
+        hearsWithoutChannel();
         hearsOneSpeaker();
         sector();
         missing();
@@ -138,6 +143,19 @@ public final class PromisesTest {
         run.end();
     }
 
+    private static void fullRowAnswers() {
+        Run run = onlyFirstUnitsFree("promise 2, full row", 5);
+        run.event(STREET, 0, 1, 4, 0).event(CALL, 0, 1, 2, 0).event(PERSON, 19, 5, 0, 0).event(LISTENS, 0, 2, 0, 0);
+        for (int i = 9; i < 200; i++) {
+            run.event(SPEAKS, 9, 2, 1 + i % 99, 99999);
+        }
+        run.noRoom("event(0, 0, 0, 0, 0)");
+        run.due("state(9, 99999)", 2).due("sent(0, 99999)", -1).due("way(0, 1, 99999)", 4).due("call(0, 1, 99999)", 2);
+        run.due("best(1, 99999)", 4).due("cover(99999)", 4).due("hears(0, 99999)", 2).due("sector(19, 99999)", 5);
+        run.due("missing(5, 0, 0, 99999)", 19).due("count(-1, 0, 100000)", 200).due("count(9, 0, 100000)", 191);
+        run.end();
+    }
+
     private static void orderOfEvents() {
         Run run = new Run("as of");
         run.event(STATE, 0, OUT, 0, 20).event(STATE, 0, OFF, 0, 10).event(STATE, 0, DRILLING, 0, 15);
@@ -149,6 +167,44 @@ public final class PromisesTest {
         run.event(PERSON, 4, 5, 0, 0).event(PERSON, 4, 1, 0, 0).due("sector(4, 0)", 1);
         run.event(PERSON, 4, -1, 0, 0).due("sector(4, 0)", -1);
         run.end();
+    }
+
+    /** An answer as of an early second stays the same after one as of a late second. */
+    private static void backAndForth() {
+        Run run = onlyFirstUnitsFree("as of, back and forth", 1);
+        run.event(STATE, 0, DRILLING, 0, 10).event(PLACE, 0, 3, 0, 10).event(STREET, 3, 0, 9, 10).event(CALL, 0, 0, 4, 10);
+        run.event(SENT, 0, 2, 0, 11).event(PERSON, 0, 0, 0, 10).event(LISTENS, 0, 0, 0, 10);
+        run.event(SPEAKS, 1, 0, 5, 10).event(SPEAKS, 1, 0, 6, 9);
+        for (int i = 0; i < 2; i++) {
+            run.due("state(0, 10)", 3).due("state(0, 9)", 0).due("sent(0, 11)", 2).due("sent(0, 9)", -1);
+            run.due("way(0, 3, 10)", 0).due("way(0, 0, 10)", 9).due("way(0, 0, 9)", 0).due("way(0, 3, 9)", -1);
+            run.due("call(0, 1, 10)", 4).notInState("call(0, 1, 9)").due("best(0, 11)", 0).due("best(0, 9)", 0);
+            run.due("sector(0, 10)", 0).due("sector(0, 9)", -1).due("hears(0, 10)", 5).due("hears(0, 9)", 0);
+        }
+        run.event(STATE, 0, FREE, 0, 12).due("best(0, 12)", 4).due("best(1, 12)", 9).due("best(3, 12)", 0);
+        run.due("best(0, 9)", 0).due("best(1, 9)", 0).due("best(2, 9)", 0).due("best(3, 9)", -1);
+        run.end();
+    }
+
+    /** One event of each kind, all with the same small numbers. */
+    private static void kindsLeaveOthersAlone() {
+        for (int kind = 0; kind <= 9; kind++) {
+            Run run = new Run("only kind " + kind);
+            run.event(kind, 1, 2, 3, 4);
+            run.due("state(1, 4)", kind == STATE ? 2 : 0).due("sent(1, 4)", kind == SENT ? 2 : -1);
+            run.due("way(1, 2, 4)", kind == PLACE ? 0 : -1).due("way(1, 0, 4)", kind == PLACE ? -1 : 0);
+            run.due("cover(4)", -1).due("sector(1, 4)", kind == PERSON ? 2 : -1);
+            run.due("missing(2, 0, 0, 4)", kind == PERSON ? 1 : -1).due("best(0, 4)", -2);
+            if (kind == CALL) {
+                run.due("call(1, 0, 4)", 2).due("call(1, 1, 4)", 3).due("call(1, 2, 4)", 1).due("call(1, 3, 4)", 0);
+            } else {
+                run.notInState("call(1, 0, 4)").notInState("call(2, 0, 4)");
+            }
+            run.event(LISTENS, 0, 2, 0, 3).due("hears(0, 4)", kind == SPEAKS ? 3 : 0);
+            run.event(SPEAKS, 0, 2, 8, 5).due("hears(1, 5)", kind == LISTENS ? 8 : 0);
+            run.event(PLACE, 3, 1, 0, 5).due("way(3, 2, 5)", kind == STREET ? 3 : -1);
+            run.end();
+        }
     }
 
     private static void state() {
@@ -201,6 +257,7 @@ public final class PromisesTest {
         run.event(PLACE, 8, 3, 0, 0).event(PLACE, 9, 5, 0, 0);
         run.due("way(8, 5, 6)", 6993).due("way(9, 3, 6)", 6993).due("way(8, 5, 5)", -1).due("way(8, 2, 5)", 5994);
         run.event(STREET, 3, 5, 999, 7).due("way(8, 5, 7)", 999).due("way(8, 0, 7)", 3996).due("way(8, 4, 7)", 2997);
+        run.due("way(0, 2, 6)", 1998).due("way(0, 3, 6)", 3996).due("way(0, 5, 6)", 2997).due("way(0, 1, 6)", 1998);
         run.end();
     }
 
@@ -328,6 +385,29 @@ public final class PromisesTest {
         run.due("cover(12)", 45);
         run.outside("cover(-1)").outside("cover(100000)").outside("cover(2147483647)").outside("cover(-2147483648)");
         run.end();
+    }
+
+    private static void coverOfFirstNode() {
+        Run run = onlyFirstUnitsFree("promise 8, first node", 1);
+        run.event(PLACE, 0, 1, 0, 0).event(STREET, 0, 1, 12, 0).due("cover(0)", 12);
+        run.event(PLACE, 0, 7, 0, 1).event(STREET, 7, 0, 5, 1).due("cover(1)", 17);
+        run.end();
+    }
+
+    private static void hearsWithoutChannel() {
+        Run run = new Run("promise 9, no channel");
+        for (int channel = 0; channel <= 3; channel++) {
+            run.event(SPEAKS, 1, channel, 11 + channel, 0);
+        }
+        run.due("hears(0, 0)", 0);
+        for (int channel = 0; channel <= 3; channel++) {
+            run.event(LISTENS, 0, channel, 0, 0).due("hears(0, 0)", 11 + channel);
+        }
+        run.event(LISTENS, 0, -1, 0, 0).due("hears(0, 0)", 0);
+        Run first = new Run("promise 9, the first event");
+        first.event(SPEAKS, 1, 2, 5, 3).due("hears(0, 3)", 0).event(LISTENS, 0, 2, 0, 3).due("hears(0, 3)", 5);
+        run.end();
+        first.end();
     }
 
     private static void hears() {
