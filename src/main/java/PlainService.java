@@ -111,10 +111,10 @@ public final class PlainService {
         needKnown(isBelow(what, BEST_FIRST_CALL + CALLS));
         needInRange(isSecond(t));
         scene.showAsOf(row, t);
-        ways.measure(scene);
         if (!sending.gather(scene)) {
             return NOT_TRIED;
         }
+        ways.measure(scene);
         sending.search(scene, ways);
         switch (what) {
             case BEST_RANKS:

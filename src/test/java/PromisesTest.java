@@ -1,24 +1,5 @@
 /** Each promise of the document with ordinary inputs, the edges that it names, and wrong inputs. */
-public final class PromisesTest {
-    private static final int STATE = 0;
-    private static final int PLACE = 1;
-    private static final int STREET = 2;
-    private static final int CLOSED = 3;
-    private static final int CALL = 4;
-    private static final int SENT = 5;
-    private static final int ENDED = 6;
-    private static final int PERSON = 7;
-    private static final int LISTENS = 8;
-    private static final int SPEAKS = 9;
-
-    private static final int FREE = 0;
-    private static final int OUT = 1;
-    private static final int OFF = 2;
-    private static final int DRILLING = 3;
-
-    private static final int HIGH = Integer.MAX_VALUE;
-    private static final int LOW = Integer.MIN_VALUE;
-
+public final class PromisesTest extends Words {
     private PromisesTest() {
     }
 
@@ -499,14 +480,6 @@ public final class PromisesTest {
         one.due("state(0, 0)", 1);
         one.end();
         other.end();
-    }
-
-    private static Run onlyFirstUnitsFree(String name, int free) {
-        Run run = new Run(name);
-        for (int unit = free; unit <= 9; unit++) {
-            run.event(STATE, unit, OFF, 0, 0);
-        }
-        return run;
     }
 
     private static void refusesUnitsAndSeconds(Run run, String method) {

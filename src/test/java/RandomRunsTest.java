@@ -50,46 +50,8 @@ public final class RandomRunsTest {
     }
 
     private static void compare(int seed, PlainService service, Oracle oracle, String method, int[] p) {
-        Run.check("seed " + seed + ": " + method + Arrays.toString(p), answer(service, method, p), oracle.answer(method, p));
-    }
-
-    private static String answer(PlainService service, String method, int[] p) {
-        try {
-            return Integer.toString(value(service, method, p));
-        } catch (RuntimeException e) {
-            return "throws." + e.getClass().getSimpleName();
-        }
-    }
-
-    private static int value(PlainService service, String method, int[] p) {
-        switch (method) {
-            case "event":
-                return service.event(p[0], p[1], p[2], p[3], p[4]);
-            case "state":
-                return service.state(p[0], p[1]);
-            case "sent":
-                return service.sent(p[0], p[1]);
-            case "way":
-                return service.way(p[0], p[1], p[2]);
-            case "call":
-                return service.call(p[0], p[1], p[2]);
-            case "best":
-                return service.best(p[0], p[1]);
-            case "cover":
-                return service.cover(p[0]);
-            case "hears":
-                return service.hears(p[0], p[1]);
-            case "sector":
-                return service.sector(p[0], p[1]);
-            case "missing":
-                return service.missing(p[0], p[1], p[2], p[3]);
-            case "count":
-                return service.count(p[0], p[1], p[2]);
-            case "events":
-                return service.events();
-            default:
-                return service.refused();
-        }
+        String got = Calls.answer(service, method, p);
+        Run.check("seed " + seed + ": " + method + Arrays.toString(p), got, oracle.answer(method, p));
     }
 
     private int[] event() {

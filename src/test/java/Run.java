@@ -1,5 +1,5 @@
-import java.lang.reflect.InvocationTargetException;
-import java.lang.reflect.Method;
+import java.util.ArrayList;
+import java.util.List;
 
 /** A run of calls on one new object, each written as text and compared with the answer that is due. */
 final class Run {
@@ -9,9 +9,10 @@ final class Run {
 
     private final String name;
     private final PlainService service = new PlainService();
+    private final List<String> events = new ArrayList<>();
     private int calls = 0;
     private int refusals = 0;
-    private int kept = 0;
+    private int newest = 0;
 
     Run(String name) {
         this.name = name;
@@ -19,13 +20,23 @@ final class Run {
 
     /** An event that is taken: its number is how many there were before. */
     Run event(int kind, int a, int b, int c, int second) {
-        due("event(" + kind + ", " + a + ", " + b + ", " + c + ", " + second + ")", kept);
-        kept++;
+        String call = "event(" + kind + ", " + a + ", " + b + ", " + c + ", " + second + ")";
+        due(call, events.size());
+        events.add(call);
+        newest = second;
         return this;
     }
 
     Run due(String call, int want) {
-        compare(call, answer(call), Integer.toString(want));
+        compare(call, want);
+        return this;
+    }
+
+    /** The same answer for the first number from one to another, as in state(#, 10). */
+    Run dueForEach(String call, int from, int to, int want) {
+        for (int number = from; number <= to; number++) {
+            due(call.replace("#", Integer.toString(number)), want);
+        }
         return this;
     }
 
@@ -45,44 +56,44 @@ final class Run {
         return refuses(call, "UnsupportedOperationException");
     }
 
-    /** What a refused call may have changed shows in the counts. */
+    /** The first numbers that are not known, on both sides, and the ones farthest from them; # is the number's place. */
+    Run unknownBeside(String call, int lowest, int highest) {
+        for (int number : beside(lowest, highest)) {
+            unknown(call.replace("#", Integer.toString(number)));
+        }
+        return this;
+    }
+
+    Run outsideBeside(String call, int lowest, int highest) {
+        for (int number : beside(lowest, highest)) {
+            outside(call.replace("#", Integer.toString(number)));
+        }
+        return this;
+    }
+
+    private static int[] beside(int lowest, int highest) {
+        return new int[] {lowest - 1, highest + 1, Integer.MIN_VALUE, Integer.MAX_VALUE};
+    }
+
     void end() {
         due("refused()", refusals);
-        due("events()", kept);
+        due("events()", events.size());
     }
 
     private Run refuses(String call, String exception) {
-        compare(call, answer(call), "throws." + exception);
+        compare(call, "throws." + exception);
         refusals++;
-        return due("refused()", refusals);
+        due("refused()", refusals);
+        new Twins(events, call).compare(name, newest);
+        return this;
     }
 
-    private void compare(String call, String got, String want) {
+    private void compare(String call, Object want) {
         calls++;
         if (calls > MOST_CALLS) {
             report(name + ": more than " + MOST_CALLS + " calls");
         }
-        check(name + ": " + call, got, want);
-    }
-
-    private String answer(String call) {
-        int bracket = call.indexOf('(');
-        String inside = call.substring(bracket + 1, call.length() - 1);
-        String[] texts = inside.isEmpty() ? new String[0] : inside.split(", ");
-        Object[] numbers = new Object[texts.length];
-        Class<?>[] types = new Class<?>[texts.length];
-        for (int i = 0; i < texts.length; i++) {
-            numbers[i] = Integer.valueOf(texts[i]);
-            types[i] = int.class;
-        }
-        try {
-            Method method = PlainService.class.getMethod(call.substring(0, bracket), types);
-            return String.valueOf(method.invoke(service, numbers));
-        } catch (InvocationTargetException e) {
-            return "throws." + e.getCause().getClass().getSimpleName();
-        } catch (ReflectiveOperationException e) {
-            return "no such call";
-        }
+        check(name + ": " + call, Calls.answer(service, call), want.toString());
     }
 
     static void check(String what, String got, String want) {
